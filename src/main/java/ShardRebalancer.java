@@ -831,7 +831,7 @@ public final class ShardRebalancer {
         }
     }
 
-    /** The ring and the targets, which follow from the active nodes, their weights and the slack. */
+    /** The ring and the targets that follow from the active nodes, their weights and the slack. */
     private static final class Placement {
         private final int[] ordered;
         private final int[] ring = new int[MAX_POINTS];
@@ -879,7 +879,7 @@ public final class ShardRebalancer {
         /** Returns the number of the successor of a place, 0 without points. */
         int pointAfter(int place) {
             int before = 0;
-            // Halving steps find how many points lie before the place; 255 is more than all of them.
+            // Halving steps find how many points lie before the place: up to 255, more than all.
             for (int step = 128; step > 0; step /= 2) {
                 int next = before + step;
                 if (next <= pointCount && placeOfPoint(pointCode(next - 1)) < place) {

@@ -53,10 +53,42 @@ final class ModelTest {
                 script();
             } else if (kind < 70) {
                 askPlacement();
-            } else {
+            } else if (kind < 98) {
                 askState();
+            } else {
+                askWithFarNumbers();
             }
         }
+    }
+
+    private int far() {
+        int[] numbers = {Integer.MIN_VALUE, Integer.MIN_VALUE + 1, -1024, -32, 0, 3, 1 << 8, 1 << 29,
+            Integer.MAX_VALUE - 1, Integer.MAX_VALUE};
+        return numbers[any(0, numbers.length - 1)];
+    }
+
+    private void askWithFarNumbers() {
+        int a = far();
+        int b = far();
+        String both = "(" + a + ", " + b + ")";
+        compare("node" + both, () -> real.node(a, b), () -> model.node(a, b));
+        compare("shard" + both, () -> real.shard(a, b), () -> model.shard(a, b));
+        compare("point" + both, () -> real.point(a, b), () -> model.point(a, b));
+        compare("move" + both, () -> real.move(a, b), () -> model.move(a, b));
+        compare("event" + both, () -> real.event(a, b), () -> model.event(a, b));
+        compare("set" + both, () -> real.set(a, b), () -> model.set(a, b));
+        compare("setWeight" + both, () -> real.setWeight(a, b), () -> model.setWeight(a, b));
+        compare("changedIf" + both, () -> real.changedIf(a, b), () -> model.changedIf(a, b));
+        compare("addNode " + a, () -> real.addNode(a), () -> model.addNode(a));
+        compare("drain " + a, () -> real.drain(a), () -> model.drain(a));
+        compare("fail " + b, () -> real.fail(b), () -> model.fail(b));
+        compare("recover " + a, () -> real.recover(a), () -> model.recover(a));
+        compare("nodes " + a, () -> real.nodes(a), () -> model.nodes(a));
+        compare("successor " + a, () -> real.successor(a), () -> model.successor(a));
+        compare("route " + a, () -> real.route(a), () -> model.route(a));
+        compare("tick " + b, () -> real.tick(b), () -> model.tick(b));
+        compare("statistic " + a, () -> real.statistic(a), () -> model.statistic(a));
+        compare("forget " + b, () -> real.forget(b), () -> model.forget(b));
     }
 
     private void changeNodes() {
