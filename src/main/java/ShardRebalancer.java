@@ -17,7 +17,8 @@ public final class ShardRebalancer {
 
     private static final int MAX_WEIGHT = 5;
     private static final int POINTS_PER_WEIGHT = 4;
-    private static final int MAX_POINTS = NODES * MAX_WEIGHT * POINTS_PER_WEIGHT;
+    private static final int MAX_POINTS_OF_NODE = MAX_WEIGHT * POINTS_PER_WEIGHT;
+    private static final int MAX_POINTS = NODES * MAX_POINTS_OF_NODE;
     private static final int LAST_PLACE = 1023;
 
     private static final int SLACK = 0;
@@ -556,9 +557,8 @@ public final class ShardRebalancer {
     /** Returns the points that all nodes would have with the greatest weight, in ring order. */
     private static int[] allPointsInOrder() {
         int[] codes = new int[MAX_POINTS];
-        int pointsOfNode = MAX_WEIGHT * POINTS_PER_WEIGHT;
         for (int i = 0; i < MAX_POINTS; i++) {
-            int code = codeOfPoint(i / pointsOfNode, i % pointsOfNode);
+            int code = codeOfPoint(i / MAX_POINTS_OF_NODE, i % MAX_POINTS_OF_NODE);
             int at = i;
             while (at > 0 && codes[at - 1] > code) {
                 codes[at] = codes[at - 1];
@@ -570,10 +570,11 @@ public final class ShardRebalancer {
     }
 
     private static int capacityFor(int weight, int slack, int totalWeight) {
-        if (totalWeight <= 0) {
+        int divisor = 100 * totalWeight;
+        if (divisor <= 0) {
             return 0;
         }
-        return 1 + SHARDS * weight * (100 + slack) / (100 * totalWeight);
+        return 1 + SHARDS * weight * (100 + slack) / divisor;
     }
 
     /** Up to a fixed number of rows with four parts each: the moves, or the events. */

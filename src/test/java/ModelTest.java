@@ -62,8 +62,8 @@ final class ModelTest {
     }
 
     private int far() {
-        int[] numbers = {Integer.MIN_VALUE, Integer.MIN_VALUE + 1, -1024, -32, 0, 3, 1 << 8, 1 << 29,
-            Integer.MAX_VALUE - 1, Integer.MAX_VALUE};
+        int[] numbers = {Integer.MIN_VALUE, Integer.MIN_VALUE + 1, -1024, -32, 0, 3, 1 << 8,
+            1 << 29, Integer.MAX_VALUE - 1, Integer.MAX_VALUE};
         return numbers[any(0, numbers.length - 1)];
     }
 
