@@ -7,24 +7,30 @@ final class Check {
 
     private static int made = 0;
     private static int wrong = 0;
+    private static String subject = "";
 
     private Check() {
     }
 
+    /** Puts a text before what is printed of the checks that follow. */
+    static void about(String text) {
+        subject = text;
+    }
+
+    static int made() {
+        return made;
+    }
+
     static void same(String what, double got, double due) {
-        made++;
-        if (got != due) {
-            wrong++;
-            System.out.println(what + " answered " + got + ", due is " + due);
-        }
+        count(what, got == due, String.valueOf(got), String.valueOf(due));
     }
 
     static void same(String what, String got, String due) {
-        made++;
-        if (!got.equals(due)) {
-            wrong++;
-            System.out.println(what + " answered " + got + ", due is " + due);
-        }
+        count(what, got.equals(due), got, due);
+    }
+
+    static void holds(String what, boolean got) {
+        count(what, got, "false", "true");
     }
 
     /** Checks that a call throws just this exception, not one of a class below it. */
@@ -45,6 +51,14 @@ final class Check {
         System.out.println(name + ": " + made + " checks, " + wrong + " wrong");
         if (wrong != 0 || made == 0) {
             System.exit(1);
+        }
+    }
+
+    private static void count(String what, boolean right, String got, String due) {
+        made++;
+        if (!right) {
+            wrong++;
+            System.out.println(subject + what + " answered " + got + ", due is " + due);
         }
     }
 }

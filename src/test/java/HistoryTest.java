@@ -1,6 +1,3 @@
-import java.util.ArrayList;
-import java.util.List;
-
 /** Promises 29 to 31: undo, save and restore. */
 final class HistoryTest {
     public static void main(String[] args) {
@@ -15,14 +12,16 @@ final class HistoryTest {
     private static void promise29() {
         ShardRebalancer x = new ShardRebalancer();
         Check.refused("undo at first", IllegalStateException.class, () -> x.undo());
-        List<String> before = new ArrayList<>();
         for (int i = 0; i < 8; i++) {
-            before.add(Stores.picture(x));
             x.addNode(1 + i % 5);
         }
         for (int left = 5; left >= 0; left--) {
             Check.same("undo", x.undo(), left);
-            Check.same("the state before", Stores.picture(x), before.get(left + 2));
+            ShardRebalancer before = new ShardRebalancer();
+            for (int i = 0; i < left + 2; i++) {
+                before.addNode(1 + i % 5);
+            }
+            Check.same("the state before", Stores.brief(x), Stores.brief(before));
         }
         Check.refused("undo a seventh", IllegalStateException.class, () -> x.undo());
         Check.same("two nodes stay", x.nodes(1), 3);
@@ -43,10 +42,10 @@ final class HistoryTest {
             ShardRebalancer x = Stores.after("n2;n3;t30;n1;f1;t1;");
             Check.same("one change by a script", x.undo(), 0);
             Stores.run(x, "n2;n3;t30;n1;f1;t1;");
-            String before = Stores.picture(x);
+            String before = Stores.brief(x);
             change(x, kind);
             Check.same("undo of " + names[kind], x.undo(), 1);
-            Check.same("the state before " + names[kind], Stores.picture(x), before);
+            Check.same("the state before " + names[kind], Stores.brief(x), before);
             Check.same("the slack before " + names[kind], x.set(0, 3), 25);
             Check.same("the budget before " + names[kind], x.set(1, 3), 3);
             Check.same("the lease length before " + names[kind], x.set(2, 3), 5);
@@ -72,7 +71,7 @@ final class HistoryTest {
 
     private static void whatIsNoChange() {
         ShardRebalancer x = Stores.after("n1;n1;");
-        String before = Stores.picture(x);
+        String before = Stores.brief(x);
         x.feed('n');
         Check.outcome(() -> x.addNode(0));
         Check.outcome(() -> x.drain(5));
@@ -84,7 +83,7 @@ final class HistoryTest {
         x.forecast();
         x.leastSlack();
         x.save();
-        Check.same("exceptions change nothing", Stores.picture(x), before);
+        Check.same("exceptions change nothing", Stores.brief(x), before);
         Check.same("undo takes back the script", x.undo(), 0);
         Check.same("the node is gone", x.nodes(0), 255);
         Check.same("undo leaves the input buffer", x.feed('1'), 2);
@@ -109,7 +108,7 @@ final class HistoryTest {
         x.set(0, 7);
         x.set(1, 5);
         x.set(2, 9);
-        String picture = Stores.picture(x);
+        String picture = Stores.brief(x);
         x.save();
         x.feed('t');
         x.feed('1');
@@ -122,9 +121,9 @@ final class HistoryTest {
             x.recover(0);
             x.tick(50);
             Check.same("a picture of another state",
-                    Stores.picture(x).equals(picture) ? 1 : 0, 0);
+                    Stores.brief(x).equals(picture) ? 1 : 0, 0);
             Check.same("restore", x.restore(), 3);
-            Check.same("what was saved is restored", Stores.picture(x), picture);
+            Check.same("what was saved is restored", Stores.brief(x), picture);
             Check.refused("no change can be taken back", IllegalStateException.class,
                     () -> x.undo());
         }

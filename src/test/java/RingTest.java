@@ -43,22 +43,22 @@ final class RingTest {
         Check.refused("point(0, 0) of none", IndexOutOfBoundsException.class,
                 () -> new ShardRebalancer().point(0, 0));
         int samePlaces = 0;
+        int[] weights = {2, 5, 1, 0, 5, 5, 5, 5};
+        int before = -1;
+        int placeBefore = -1;
         for (int i = 0; i < points; i++) {
+            int place = x.point(i, 0);
             int n = x.point(i, 1);
             int k = x.point(i, 2);
-            Check.same("place of a point", x.point(i, 0), Model.mix(64 * n + k));
-            Check.same("a point of an active node", x.node(n, 0), 1);
-            Check.same("k below 4 * w", k < 4 * x.node(n, 1) ? 1 : 0, 1);
-            if (i > 0) {
-                samePlaces += x.point(i, 0) == x.point(i - 1, 0) ? 1 : 0;
-                Check.same("points in their order", order(x, i - 1) < order(x, i) ? 1 : 0, 1);
-            }
+            Check.same("place of a point", place, Model.mix(64 * n + k));
+            Check.holds("k below 4 * w of an active node", k < 4 * weights[n]);
+            int order = (place * 8 + n) * 32 + k;
+            Check.holds("points in their order", before < order);
+            samePlaces += place == placeBefore ? 1 : 0;
+            before = order;
+            placeBefore = place;
         }
-        Check.same("there are points with the same place", samePlaces > 0 ? 1 : 0, 1);
-    }
-
-    private static int order(ShardRebalancer x, int i) {
-        return (x.point(i, 0) * 8 + x.point(i, 1)) * 32 + x.point(i, 2);
+        Check.holds("there are points with the same place", samePlaces > 0);
     }
 
     private static void promise12() {
@@ -70,13 +70,18 @@ final class RingTest {
                 () -> x.successor(0));
         for (int n = 0; n < 8; n++) {
             x.addNode(1 + n % 5);
-            for (int place = 0; place <= 1023; place += place % 7 == 0 ? 1 : 3) {
-                int due = 0;
-                while (due < x.points() && x.point(due, 0) < place) {
-                    due++;
-                }
-                Check.same("successor(" + place + ")", x.successor(place), due % x.points());
+        }
+        int points = x.points();
+        int[] places = new int[points];
+        for (int i = 0; i < points; i++) {
+            places[i] = x.point(i, 0);
+        }
+        for (int place = 0; place <= 1023; place += place % 7 == 0 ? 1 : 5) {
+            int due = 0;
+            while (due < points && places[due] < place) {
+                due++;
             }
+            Check.same("successor(" + place + ")", x.successor(place), due % points);
         }
         Check.same("successor of the last place", x.successor(1023), 0);
         Check.same("successor of a point's place", x.successor(x.point(3, 0)), 3);
@@ -148,25 +153,28 @@ final class RingTest {
         ShardRebalancer x = Stores.settled();
         x.addNode(3);
         x.tick(50);
-        for (int key = -2000000000; key < 2000000000 - 7654321; key += 7654321) {
-            int due = x.shard(Model.mix(key) % 32, 3);
+        int[] owners = new int[32];
+        for (int s = 0; s < 32; s++) {
+            owners[s] = x.shard(s, 3);
+        }
+        for (int key = -2000000000; key < 2000000000 - 23456789; key += 23456789) {
             int k = key;
-            Check.same("route(" + key + ")", x.route(k), due);
+            Check.same("route(" + key + ")", x.route(k), owners[Model.mix(key) % 32]);
         }
         Check.same("route(0)", x.route(0), x.shard(0, 3));
         x.drain(0);
         int served = 0;
         for (int key = 0; key < 100; key++) {
             int k = key;
-            int shard = Model.mix(key) % 32;
-            served += x.shard(shard, 3) == 0 ? 1 : 0;
-            Check.same("a draining node serves", x.route(k), x.shard(shard, 3));
+            int owner = owners[Model.mix(key) % 32];
+            served += owner == 0 ? 1 : 0;
+            Check.same("a draining node serves", x.route(k), owner);
         }
         Check.same("the draining node serves some", served > 0 ? 1 : 0, 1);
         x.fail(0);
         for (int key = 0; key < 100; key++) {
             int k = key;
-            if (x.shard(Model.mix(key) % 32, 3) == 0) {
+            if (owners[Model.mix(key) % 32] == 0) {
                 Check.refused("a node that is down serves nothing",
                         NoSuchElementException.class, () -> x.route(k));
             }

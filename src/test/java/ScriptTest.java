@@ -50,8 +50,8 @@ final class ScriptTest {
         byCalls.tick(9);
         byCalls.drain(0);
         byCalls.tick(7);
-        Check.same("a script does what the calls do", Stores.picture(byScript),
-                Stores.picture(byCalls));
+        Check.same("a script does what the calls do", Stores.brief(byScript),
+                Stores.brief(byCalls));
     }
 
     private static void syntaxErrors() {
@@ -68,9 +68,9 @@ final class ScriptTest {
         Check.same("a position for each text", positions.length, texts.length);
         for (int i = 0; i < texts.length; i++) {
             ShardRebalancer x = Stores.settled();
-            String before = Stores.picture(x);
+            String before = Stores.brief(x);
             Check.same("perform of " + texts[i], Stores.run(x, texts[i]), -100 - positions[i]);
-            Check.same("nothing changes", Stores.picture(x), before);
+            Check.same("nothing changes", Stores.brief(x), before);
             Check.same("the buffer is empty", x.feed('x'), 1);
             Check.same("it is no change", x.undo(), 0);
         }
@@ -82,10 +82,10 @@ final class ScriptTest {
             "w0=6;", "w8=1;", "w1=1;", "t0;", "t00;", "t51;", "t5;n5;t99;", "w0=5;d0;t50;n0;"};
         for (String script : scripts) {
             ShardRebalancer x = Stores.settled();
-            String before = Stores.picture(x);
+            String before = Stores.brief(x);
             Check.refused("perform of " + script, UnsupportedOperationException.class,
                     () -> Stores.run(x, script));
-            Check.same("none has an effect: " + script, Stores.picture(x), before);
+            Check.same("none has an effect: " + script, Stores.brief(x), before);
             Check.same("the buffer is empty", x.feed('x'), 1);
             Check.same("it is no change", x.undo(), 0);
             Check.refused("only one was there", IllegalStateException.class, () -> x.undo());

@@ -1,5 +1,3 @@
-import java.util.NoSuchElementException;
-
 /** Promises 15 to 18: pending shards, questions of the form what if, slack and fill. */
 final class TargetsTest {
     private static final String[] SCRIPTS = {"n1;", "n1;n1;", "n1;n1;n1;", "n1;n5;n2;",
@@ -77,9 +75,9 @@ final class TargetsTest {
             if (x.node(node, 0) != 1) {
                 return;
             }
-            String before = Stores.picture(x);
+            String before = Stores.brief(x);
             int answer = x.changedIf(node, weight);
-            Check.same("changedIf changes nothing", Stores.picture(x), before);
+            Check.same("changedIf changes nothing", Stores.brief(x), before);
             ShardRebalancer changed = Stores.after(script);
             if (weight == 0) {
                 changed.fail(node);
@@ -102,41 +100,23 @@ final class TargetsTest {
                 () -> down.leastSlack());
         Check.same("leastSlack of one node", Stores.after("n4;").leastSlack(), 0);
         int none = 0;
+        int greatest = 0;
         for (String script : SCRIPTS) {
-            ShardRebalancer x = Stores.after(script);
             int due = 0;
-            while (due <= 100 && skips(x, due)) {
+            while (due <= 100 && Stores.skipped(script, due) != 0) {
                 due++;
             }
-            int slack = due;
-            x.set(0, 100);
-            if (due <= 100) {
-                Check.same(script + ": leastSlack", x.leastSlack(), slack);
-            } else {
-                none++;
-                Check.refused(script + ": leastSlack", NoSuchElementException.class,
-                        () -> x.leastSlack());
+            none += due > 100 ? 1 : 0;
+            greatest += due == 100 ? 1 : 0;
+            String answer = due > 100 ? "NoSuchElementException" : String.valueOf((double) due);
+            ShardRebalancer x = Stores.after(script);
+            for (int slack : new int[] {25, 0, 100, 42}) {
+                x.set(0, slack);
+                Check.same(script + ": leastSlack", Check.outcome(x::leastSlack), answer);
             }
-            x.set(0, 0);
-            none += due == 100 ? 100 : 0;
-            Check.same(script + ": leastSlack, whatever the slack",
-                    Check.outcome(() -> x.leastSlack()),
-                    due <= 100 ? String.valueOf((double) due) : "NoSuchElementException");
-            x.set(0, 42);
-            Check.outcome(() -> x.leastSlack());
             Check.same("leastSlack leaves the slack", x.set(0, 1), 42);
         }
-        Check.same("scripts without such a slack, and one with 100", none % 100 > 0 && none > 100
-                ? 1 : 0, 1);
-    }
-
-    private static boolean skips(ShardRebalancer x, int slack) {
-        x.set(0, slack);
-        int all = 0;
-        for (int s = 0; s < 32; s++) {
-            all |= x.shard(s, 7);
-        }
-        return all != 0;
+        Check.holds("scripts without such a slack, and one with 100", none > 0 && greatest > 0);
     }
 
     private static void promise18() {

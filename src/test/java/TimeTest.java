@@ -41,7 +41,7 @@ final class TimeTest {
         for (int i = 0; i < 37; i++) {
             often.tick(1);
         }
-        Check.same("37 ticks", Stores.picture(once), Stores.picture(often));
+        Check.same("37 ticks", Stores.brief(once), Stores.brief(often));
     }
 
     private static void leases() {
@@ -289,9 +289,9 @@ final class TimeTest {
         Check.same("forecast of one move after the other", slow.forecast(), 1 + 151);
         for (String script : new String[] {"n1;n1;", "n2;n2;n3;t20;n4;d1;f0;", "n5;t40;f0;n1;"}) {
             ShardRebalancer x = Stores.after(script);
-            String before = Stores.picture(x);
+            String before = Stores.brief(x);
             int ticks = x.forecast();
-            Check.same("forecast changes nothing", Stores.picture(x), before);
+            Check.same("forecast changes nothing", Stores.brief(x), before);
             for (int i = 1; i <= ticks; i++) {
                 Check.same("pending until then", x.pending() > 0 ? 1 : 0, 1);
                 x.tick(1);
