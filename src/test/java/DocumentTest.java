@@ -81,7 +81,7 @@ final class DocumentTest {
         return said;
     }
 
-    /** Returns the text of a section as one line, without signatures, headings of parts and code. */
+    /** Returns the text of a section as one line, without signatures and headings of parts. */
     private static String section(String document, String title) {
         int start = document.indexOf("\n## " + title);
         if (start < 0) {

@@ -40,9 +40,9 @@ final class NodesBoundaryTest {
     @Says(promise = {2, 3, 4, 5, 6, 7, 16}, sentence = "There are nodes with numbers from 0 to 7.")
     static void nodesAreNumberedFrom0To7() {
         ShardRebalancer x = Stores.after(EIGHT);
-        for (int n : new int[] {0, 7}) {
+        for (int n : new int[] {0, 1, 6, 7}) {
             Check.same("node(" + n + ", 0)", x.node(n, 0), 1);
-            Check.same("setWeight(" + n + ", 5)", x.setWeight(n, 5), n == 0 ? 1 : 3);
+            Check.same("setWeight(" + n + ", 5)", x.setWeight(n, 5), 1 + n % 5);
             Check.same("changedIf(" + n + ", 5)", x.changedIf(n, 5), 0);
             Check.same("drain(" + n + ")", x.drain(n), 0);
             Check.same("fail(" + n + ")", x.fail(n), 0);
@@ -58,8 +58,8 @@ final class NodesBoundaryTest {
         }
     }
 
-    @Says(promise = {2, 3, 4, 5, 7, 8}, sentence =
-            "A node is absent (state 0), active (1), draining (2) or down (3); at first all are absent.")
+    @Says(promise = {2, 3, 4, 5, 7, 8}, sentence = "A node is absent (state 0), active (1), "
+            + "draining (2) or down (3); at first all are absent.")
     static void eachStateHasItsNumber() {
         ShardRebalancer x = new ShardRebalancer();
         for (int n = 0; n < 8; n++) {

@@ -210,10 +210,33 @@ final class RingBoundaryTest {
         Check.same("shard 24 lies before the last point", two.successor(two.shard(24, 0)), 7);
     }
 
+    @Says(promise = {12, 13}, sentence = "after the last point, the first one follows again.")
+    static void targetsAtTheLastAndAtTheFirstPoint() {
+        ShardRebalancer x = Stores.after("n1;n2;n2;n1;n2;f0;f3;");
+        x.set(0, 0);
+        Check.same("the number of points", x.points(), 24);
+        Check.same("the node of the last point", x.point(23, 1), 2);
+        Check.same("the node of the first point", x.point(0, 1), 4);
+        Check.same("shard 22 begins at the last but one", x.successor(x.shard(22, 0)), 22);
+        Check.same("its target is at the last point", x.shard(22, 2), 2);
+        Check.same("one node is skipped for it", x.shard(22, 7), 1 << 1);
+        Check.same("shard 30 begins there too", x.successor(x.shard(30, 0)), 22);
+        Check.same("its target is at the first point", x.shard(30, 2), 4);
+        Check.same("two nodes are skipped for it", x.shard(30, 7), 1 << 1 | 1 << 2);
+        ShardRebalancer y = Stores.after("n1;n1;n1;n1;n1;n1;n1;f0;f1;f3;f4;");
+        y.set(0, 0);
+        Check.same("shard 24 begins at the last point", y.successor(y.shard(24, 0)), 11);
+        Check.same("its node is full", y.shard(24, 7), 1 << 6);
+        Check.same("the second point's node", y.point(1, 1), 5);
+        Check.same("the target is the first point's node", y.shard(24, 2), 2);
+    }
+
     @Says(promise = {13, 26}, sentence = "There are 32 shards, numbered from 0.")
     static void shardsAreNumberedFrom0To31() {
         ShardRebalancer x = new ShardRebalancer();
         Check.same("shard(0, 0)", x.shard(0, 0), 606);
+        Check.same("shard(1, 0)", x.shard(1, 0), 105);
+        Check.same("shard(30, 0)", x.shard(30, 0), 961);
         Check.same("shard(31, 0)", x.shard(31, 0), 186);
         Check.same("forget(0)", x.forget(0), 0);
         Check.same("forget(31)", x.forget(31), 0);

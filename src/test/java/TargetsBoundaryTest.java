@@ -235,8 +235,35 @@ final class TargetsBoundaryTest {
         leastSlack("n5;n5;f0;", 0);
         leastSlack("n2;n1;n5;d1;", 1);
         leastSlack("n1;n1;n4;n1;f0;f1;", 2);
+        leastSlack("n1;n1;", 75);
         leastSlack("n2;n3;n1;n4;", 98);
         leastSlack("n3;n1;n3;n1;", 100);
+    }
+
+    @Says(promise = 17, sentence =
+            "Returns the least slack with which no node is skipped for any shard.")
+    static void leastSlackForEachNodeThatNeedsIt() {
+        for (int node = 0; node < 8; node++) {
+            ShardRebalancer x = Stores.after("n1;n1;n1;n1;n1;n1;n1;n1;");
+            for (int n = 0; n < 8; n++) {
+                x.setWeight(n, n == node ? 1 : 5);
+            }
+            String answer = Check.outcome(x::leastSlack);
+            int due = 0;
+            while (due <= 100 && skips(node, due)) {
+                due++;
+            }
+            Check.same("leastSlack() with the light node " + node, answer,
+                    due > 100 ? "NoSuchElementException" : String.valueOf((double) due));
+        }
+    }
+
+    private static boolean skips(int lightNode, int slack) {
+        StringBuilder script = new StringBuilder();
+        for (int n = 0; n < 8; n++) {
+            script.append(n == lightNode ? "n1;" : "n5;");
+        }
+        return Stores.skipped(script.toString(), slack) != 0;
     }
 
     @Says(promise = 17, sentence =
@@ -247,13 +274,18 @@ final class TargetsBoundaryTest {
         leastSlack("n1;n2;n2;n5;", 104);
     }
 
-    /** Compares the answer with what is skipped with the least slack and with the one below. */
+    /**
+     * Compares the answer with what is skipped with the least slack and with the one below. No
+     * weights at all need 99 or 101, so 98, 100 and 102 are the nearest that can be asked for.
+     */
     private static void leastSlack(String script, int due) {
         if (due > 100) {
             Boundary.refused(script, "leastSlack() after " + script,
                     NoSuchElementException.class, x -> x.leastSlack());
         } else {
-            Check.same("leastSlack() after " + script, Stores.after(script).leastSlack(), due);
+            ShardRebalancer x = Stores.after(script);
+            Check.same("leastSlack() after " + script, x.leastSlack(), due);
+            Check.same("leastSlack() again", x.leastSlack(), due);
             Check.same("skipped with it", Stores.skipped(script, due), 0);
         }
         if (due > 0) {
