@@ -415,9 +415,22 @@ final class RingBoundaryTest {
         }
     }
 
-    @Says(promise = 14, sentence = {"Returns the node that serves a key: the shard of the key is "
-            + "the place of the key modulo 32.", "`key`: the key, any int",
-        "Returns the owner of the shard."})
+    @Says(promise = 14, sentence = "Returns the node that serves a key: the shard of the key is "
+            + "the place of the key modulo 32.")
+    static void routeToTheShardOfAKey() {
+        ShardRebalancer x = Stores.withOneShard();
+        int[] served = new int[32];
+        for (int key = 0; key < 400; key++) {
+            int k = key;
+            served[place(key) % 32] += Check.outcome(() -> x.route(k)).equals("0.0") ? 1 : 0;
+        }
+        for (int shard = 0; shard < 32; shard++) {
+            Check.holds("keys of the shard " + shard + " are served or not",
+                    shard == 4 ? served[shard] > 0 : served[shard] == 0);
+        }
+    }
+
+    @Says(promise = 14, sentence = {"`key`: the key, any int", "Returns the owner of the shard."})
     static void routeTakesAnyKey() {
         ShardRebalancer x = Stores.withOneShard();
         for (int key : new int[] {0, -1, 1, LEAST, GREATEST, 7, 1000}) {

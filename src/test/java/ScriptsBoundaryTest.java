@@ -221,9 +221,30 @@ final class ScriptsBoundaryTest {
         return x;
     }
 
-    @Says(promise = 28, sentence = {
-        "Parses the input buffer as a script and performs its commands.",
-        "The buffer is empty afterwards, also after an error or an exception."})
+    @Says(promise = 28, sentence =
+            "Parses the input buffer as a script and performs its commands.")
+    static void aScriptDoesWhatTheCallsDo() {
+        Stores.same("the state after a script", Stores.picture(() -> Stores.after(
+                "n2;n4;t12;f1;t3;n1;r1;t40;w2=5;t9;d0;t07;")), Stores.picture(() -> {
+                    ShardRebalancer x = new ShardRebalancer();
+                    x.addNode(2);
+                    x.addNode(4);
+                    x.tick(12);
+                    x.fail(1);
+                    x.tick(3);
+                    x.addNode(1);
+                    x.recover(1);
+                    x.tick(40);
+                    x.setWeight(2, 5);
+                    x.tick(9);
+                    x.drain(0);
+                    x.tick(7);
+                    return x;
+                }));
+    }
+
+    @Says(promise = 28, sentence =
+            "The buffer is empty afterwards, also after an error or an exception.")
     static void theBufferIsEmptyAfterwards() {
         String[] texts = {"n1;", TWENTY, "", "n", "x", TWENTY.substring(0, 59) + "x", "n0;",
             "n1;n1;d5;"};
@@ -237,8 +258,8 @@ final class ScriptsBoundaryTest {
         }
     }
 
-    @Says(promise = 28, sentence = {
-        "If a command cannot be performed, none of the commands has an effect.", REFUSED})
+    @Says(promise = 28, sentence =
+            "If a command cannot be performed, none of the commands has an effect.")
     static void oneImpossibleCommandAndNoneIsDone() {
         String[] scripts = {"n0;n1;t5;", "n1;n0;t5;", "n1;t5;n0;", "t50;t50;t50;d7;",
             "d0;f1;d0;", "w0=5;w1=5;w2=5;w3=5;", "r1;r1;", "f0;f1;f0;", "n1;n1;n1;n1;n1;n1;n1;",

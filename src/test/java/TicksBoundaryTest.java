@@ -591,11 +591,17 @@ final class TicksBoundaryTest {
         }
     }
 
-    @Says(promise = 22, sentence = {"Returns after how many ticks pending would be 0 for the "
-            + "first time, if nothing but ticks happened.",
-        "Returns the number of ticks, 0 if it is so now."})
-    static void forecastFromNowToTheLongest() {
+    @Says(promise = 22, sentence = "Returns the number of ticks, 0 if it is so now.")
+    static void forecastOfNow() {
         Check.same("forecast() when all is done", Stores.settled().forecast(), 0);
+        Check.same("forecast() a tick before", Stores.after("n1;t50;t28;").forecast(), 1);
+        Check.same("forecast() in the last tick", Stores.after("n1;t50;t29;").forecast(), 0);
+        Check.same("forecast() a tick later", Stores.after("n1;t50;t30;").forecast(), 0);
+    }
+
+    @Says(promise = 22, sentence = "Returns after how many ticks pending would be 0 for the first "
+            + "time, if nothing but ticks happened.")
+    static void forecastUpToTheLongest() {
         ShardRebalancer x = Stores.after("n1;t50;t27;");
         Check.same("forecast() with two ticks left", x.forecast(), 2);
         x.tick(1);
