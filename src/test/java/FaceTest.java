@@ -1,51 +1,29 @@
+import java.io.IOException;
 import java.lang.reflect.Constructor;
 import java.lang.reflect.Executable;
 import java.lang.reflect.Field;
 import java.lang.reflect.Method;
 import java.lang.reflect.Modifier;
-import java.util.Arrays;
+import java.nio.file.Files;
+import java.nio.file.Path;
+import java.util.ArrayList;
+import java.util.List;
 import java.util.TreeSet;
+import java.util.regex.Matcher;
+import java.util.regex.Pattern;
 
-/** The face of the class: just the members that the document names. */
+/**
+ * The face of the class: just the members that the document names. Run it from the project's
+ * folder.
+ */
 final class FaceTest {
-    private static final String INDEX = "IndexOutOfBoundsException";
-    private static final String ARGUMENT = "IllegalArgumentException";
-    private static final String STATE = "IllegalStateException";
-    private static final String ELEMENT = "NoSuchElementException";
-    private static final String[] FACE = {
-        "int addNode(int): " + ARGUMENT + " " + STATE,
-        "int drain(int): " + INDEX + " " + STATE,
-        "int fail(int): " + INDEX + " " + STATE,
-        "int recover(int): " + INDEX + " " + STATE,
-        "int setWeight(int, int): " + INDEX + " " + ARGUMENT,
-        "int node(int, int): " + INDEX + " " + ARGUMENT,
-        "int nodes(int): " + ARGUMENT,
-        "int set(int, int): " + ARGUMENT,
-        "int points():",
-        "int point(int, int): " + INDEX + " " + ARGUMENT,
-        "int successor(int): " + ARGUMENT + " " + ELEMENT,
-        "int shard(int, int): " + INDEX + " " + ARGUMENT,
-        "int route(int): " + ELEMENT,
-        "int pending():",
-        "int changedIf(int, int): " + INDEX + " " + ARGUMENT + " " + STATE,
-        "int leastSlack(): " + ELEMENT + " " + STATE,
-        "double greatestFill(): ArithmeticException",
-        "int tick(int): " + ARGUMENT,
-        "int moves():",
-        "int move(int, int): " + INDEX + " " + ARGUMENT,
-        "int forecast(): " + ELEMENT,
-        "int statistic(int): " + ARGUMENT,
-        "int events():",
-        "int event(int, int): " + INDEX + " " + ARGUMENT,
-        "int forget(int): " + INDEX,
-        "int feed(char): " + STATE,
-        "int perform(): UnsupportedOperationException",
-        "int undo(): " + STATE,
-        "int save():",
-        "int restore(): " + STATE,
-    };
+    private static final Path DOCUMENT = Path.of("../shared/DOC.md");
+    private static final int METHODS = 30;
+    private static final Pattern SIGNATURE =
+            Pattern.compile("(int|double) (\\w+)\\((.*?)\\)(?: throws (.*))?");
 
-    public static void main(String[] args) {
+    public static void main(String[] args) throws IOException {
+        List<String> due = documentedMethods();
         Class<?> face = ShardRebalancer.class;
         Check.same("public and final", face.getModifiers(), Modifier.PUBLIC | Modifier.FINAL);
         Constructor<?>[] constructors = face.getDeclaredConstructors();
@@ -56,7 +34,7 @@ final class FaceTest {
             Check.same(field + " is private", field.getModifiers() & Modifier.PRIVATE,
                     Modifier.PRIVATE);
         }
-        TreeSet<String> names = publicMethods(face);
+        TreeSet<String> names = publicMethods(face, due);
         privateNames(face, names);
         for (Class<?> inside : face.getDeclaredClasses()) {
             Check.same(inside + " is static", Modifier.isStatic(inside.getModifiers()) ? 1 : 0, 1);
@@ -65,7 +43,39 @@ final class FaceTest {
         Check.finish("FaceTest");
     }
 
-    private static TreeSet<String> publicMethods(Class<?> face) {
+    /** Reads the methods that the document's face shows; its promises must have the same ones. */
+    private static List<String> documentedMethods() throws IOException {
+        List<String> shown = new ArrayList<>();
+        List<String> promised = new ArrayList<>();
+        for (String line : Files.readAllLines(DOCUMENT)) {
+            if (line.startsWith("    public ") && line.endsWith(";")) {
+                shown.add(line.substring("    public ".length(), line.length() - 1));
+            } else if (line.matches("`[^`]+`")) {
+                promised.add(line.substring(1, line.length() - 1));
+            }
+        }
+        Check.same("the promised signatures", String.join("\n", promised),
+                String.join("\n", shown));
+        List<String> methods = new ArrayList<>();
+        for (String text : shown) {
+            Matcher signature = SIGNATURE.matcher(text);
+            if (signature.matches()) {
+                methods.add(signature(signature));
+            } else {
+                Check.same("the constructor", text, "ShardRebalancer()");
+            }
+        }
+        Check.same("methods of the document", methods.size(), METHODS);
+        return methods;
+    }
+
+    private static String signature(Matcher shown) {
+        String takes = shown.group(3).replaceAll(" \\w+(,|$)", "$1");
+        String thrown = shown.group(4) == null ? "" : " " + shown.group(4).replace(",", "");
+        return shown.group(1) + " " + shown.group(2) + "(" + takes + "):" + thrown;
+    }
+
+    private static TreeSet<String> publicMethods(Class<?> face, List<String> due) {
         TreeSet<String> found = new TreeSet<>();
         TreeSet<String> names = new TreeSet<>();
         for (Method method : face.getDeclaredMethods()) {
@@ -78,7 +88,7 @@ final class FaceTest {
             }
         }
         Check.same("the face", String.join("\n", found),
-                String.join("\n", new TreeSet<>(Arrays.asList(FACE))));
+                String.join("\n", new TreeSet<>(due)));
         return names;
     }
 
